@@ -978,7 +978,7 @@ public final class SmellHours {
         int cells;
         final int[] powders = new int[SQUARES];
         int handTick = NONE, handCell;
-        int litTick = NONE, litCell = NONE, outTick = NONE;
+        int litTick, litCell, outTick;
         final int[] begins = new int[SQUARES];
         final int[] ends = new int[SQUARES];
         /** The neighbours of each cell among the cells; NONE: no cell is there. */
@@ -996,6 +996,7 @@ public final class SmellHours {
             return i >= 0 && i < cells;
         }
 
+        /** The clock has no grains when it is mounted, so its new cells are all bare. */
         void takePath(Seal seal) {
             cells = seal.length;
             for (int i = 0; i < cells; i++) {
@@ -1005,7 +1006,6 @@ public final class SmellHours {
                     near[i * SIDES + side] = other == NONE ? NONE : seal.place[other];
                 }
             }
-            makeBare();
         }
 
         void makeBare() {
@@ -1445,7 +1445,6 @@ public final class SmellHours {
             faultKind = 0;
             stage = BEFORE_CLAUSE;
             clauses = 0;
-            clauseWatch = 0;
             Arrays.fill(fresh, NONE);
             readTokens();
             length = 0;

@@ -311,11 +311,15 @@ public final class BellTest {
         check.due("cell 2 is bare", x.gone(0, 3, 10, 0, 0, 0, 0), Check.NOT);
         check.due("cell 2 is bare itself", x.gone(0, 2, 10, 0, 0, 0, 2), Check.NOT);
         check.due("up to cell 1", x.gone(0, 1, 10, 0, 0, 0, 2), 0);
+        Check.line(x, 0, 2);
+        x.mount(1, 0);
+        x.lay(1, 1, 0, 0);
+        check.due("cell 0 is bare", x.gone(1, 1, 10, 0, 0, 0, 0), Check.NOT);
         check.due("clock 4", x.gone(4, 0, 6000, 0, 0, 0, 0), Check.UNKNOWN);
         check.due("clock -1", x.gone(-1, 0, 0, 0, 0, 0, 0), Check.UNKNOWN);
         check.due("cell 6", x.gone(0, 6, 6000, 0, 0, 0, 0), Check.UNKNOWN);
         check.due("cell -1", x.gone(0, -1, 0, 0, 0, 0, 0), Check.UNKNOWN);
-        check.due("a clock without cells", x.gone(1, 0, 0, 0, 0, 0, 0), Check.UNKNOWN);
+        check.due("a clock without cells", x.gone(2, 0, 0, 0, 0, 0, 0), Check.UNKNOWN);
         check.due("t 6000, though bare", x.gone(0, 3, 6000, 0, 0, 0, 0), Check.OUTSIDE);
         check.due("t -1", x.gone(0, 1, -1, 0, 0, 0, 0), Check.OUTSIDE);
         check.due("a -1", x.gone(0, 1, 0, -1, 0, 0, 0), Check.OUTSIDE);

@@ -5,11 +5,13 @@ public final class ClockTest {
     public static void main(String[] args) {
         mounts();
         mountForgets();
+        mountKeepsOthers();
         mountKeepsItsPath();
         lays();
         grains();
         sweeps();
         sweepsFull();
+        fullBoard();
         rows();
         fills();
         fillsByDamp();
@@ -28,6 +30,7 @@ public final class ClockTest {
         check.due("no cell 36", x.grain(3, 36), Check.UNKNOWN);
         Check.line(x, 2, 2);
         check.due("mount anew", x.mount(3, 2), 2);
+        check.due("still bare", x.grain(3, 1), Check.NONE);
         check.due("no cell 2", x.grain(3, 2), Check.UNKNOWN);
         check.due("one is mounted", x.count(4), 1);
         check.due("a seal without a path", x.mount(0, 3), Check.NOT);
@@ -90,6 +93,55 @@ public final class ClockTest {
         x.lay(2, 0, 0, 0);
         x.again(0, 0, 30);
         check.due("clock 0 is not lit", x.night(0, 0), Check.NONE);
+    }
+
+    private static void mountKeepsOthers() {
+        SmellHours x = new SmellHours();
+        for (int c = 0; c < 4; c++) {
+            Check.lineClock(x, c, 3, 0);
+        }
+        x.sweep(1, 0);
+        x.link(1, 0, 2);
+        x.link(2, 1, 1);
+        x.link(0, 2, 3);
+        x.link(1, 1, 0);
+        x.link(0, 1, 2);
+        x.again(1, 2, 7);
+        x.again(1, 2, 50);
+        x.again(0, 0, 60);
+        x.again(1, 1, 70);
+        x.again(3, 1, 80);
+        x.light(1, 1, 4);
+        x.light(0, 1, 100);
+        check.due("clock 1 is lit", x.night(1, 0), 4);
+        check.due("links to go on", x.night(3, 0), 110);
+        x.mount(1, 5);
+        check.due("clock 1 is not lit", x.night(1, 0), Check.NONE);
+        check.due("nor out", x.night(1, 1), Check.NONE);
+        check.due("nor lit anywhere", x.night(1, 3), Check.NONE);
+        check.due("two links", x.count(2), 2);
+        check.due("two agains", x.count(3), 2);
+        check.due("link 0 2 3", x.night(3, 0), 110);
+        check.due("link 0 1 2", x.night(2, 0), 100);
+        x.calm();
+        againsStay();
+    }
+
+    private static void againsStay() {
+        SmellHours x = new SmellHours();
+        Check.line(x, 0, 4);
+        x.mount(0, 0);
+        x.mount(1, 0);
+        x.bring(0, 0, 9);
+        x.lay(0, 0, 0, 0);
+        x.lay(0, 2, 0, 0);
+        x.again(1, 1, 5);
+        x.again(0, 2, 40);
+        x.again(1, 3, 50);
+        x.light(0, 0, 0);
+        x.mount(1, 0);
+        check.due("one again", x.count(3), 1);
+        check.due("that of clock 0", x.burns(0, 2, 0), 40);
     }
 
     private static void mountKeepsItsPath() {
@@ -204,6 +256,44 @@ public final class ClockTest {
         x.pour(2, 3, 6, 1);
         check.due("997 and 2", x.sweep(0, 2), 3);
         check.due("999 then", x.jar(2, 6), 999);
+        sweepsFullOfEach();
+    }
+
+    private static void sweepsFullOfEach() {
+        for (int p = 0; p < 8; p++) {
+            SmellHours x = new SmellHours();
+            Check.lineClock(x, 0, 1, p);
+            for (int k = 0; k < 10; k++) {
+                x.bring(1, p, 99);
+            }
+            x.bring(1, p, 9);
+            check.due("999 and 1 of " + p, x.sweep(0, 1), Check.FULL);
+            check.due("the grain stays", x.grain(0, 0), p);
+            check.due("another jar", x.sweep(0, 2), 1);
+        }
+    }
+
+    /** All 36 cells, where each row ends at its last index. */
+    private static void fullBoard() {
+        SmellHours x = new SmellHours();
+        Check.snake(x, 0, 6, 6);
+        x.mount(0, 0);
+        x.bring(0, 0, 99);
+        x.rate(0, 1);
+        check.due("fill 36", x.fill(0, 0, 1), 36);
+        check.due("weighed 36", x.weighed(0, 2), 36);
+        x.light(0, 0, 0);
+        check.due("36 burn", x.night(0, 2), 36);
+        check.due("the last one jumps to", x.burns(0, 35, 0), 5);
+        check.due("the far corner", x.burns(0, 30, 0), 10);
+        check.due("no spills", x.spills(0, 0, 1), 0);
+        x.row(0, 1);
+        check.due("spills of all", x.spills(0, 0, 1), 36);
+        check.due("scent", x.scent(0, 10), 1);
+        check.due("out", x.scent(0, 11), 0);
+        check.due("gone along all", x.gone(0, 35, 100, 0, 0, 0, 0), 36);
+        check.due("dawn of 36", x.dawn(), 36);
+        check.due("ashes", x.weighed(0, 3), 36);
     }
 
     private static void rows() {
@@ -296,6 +386,9 @@ public final class ClockTest {
         check.due("then jar 2", x.jar(2, 0), 0);
         check.due("then jar 3", x.jar(3, 0), 2);
         check.due("it has grains", x.fill(0, 0, 1), Check.NOT);
+        x.sweep(0, 0);
+        x.lay(0, 5, 0, 0);
+        check.due("it has one grain", x.fill(0, 0, 1), Check.NOT);
     }
 
     private static void fillsRefused() {

@@ -51,6 +51,8 @@ public final class NightTest {
         check.due("refused, it stays", x.night(0, 0), 6);
         check.due("no hand", x.light(0, 0, Check.NONE), 1);
         check.due("not lit", x.night(0, 0), Check.NONE);
+        check.due("nor out", x.night(0, 1), Check.NONE);
+        check.due("nor lit anywhere", x.night(0, 3), Check.NONE);
         check.due("light at 0", x.light(0, 0, 0), 1);
         check.due("lit at 0", x.night(0, 0), 0);
     }

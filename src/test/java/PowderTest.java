@@ -59,6 +59,8 @@ public final class PowderTest {
         check.due("floor of 7 * 114 / 100", x.burns(0, 0, 1), 126);
         x.damp(0, 99, 15);
         check.due("floor of 7 * 115 / 100", x.burns(0, 0, 1), 127);
+        check.due("damp 0", x.damp(1, 1, 0), 1);
+        check.due("dry again", x.burns(0, 0, 1), 126);
     }
 
     /** The hour in which a cell begins tells its damp, with all of it; the last hour goes on. */

@@ -326,6 +326,23 @@ public final class SealTest {
         x.go(0, 1);
         x.go(0, 5);
         check.due("alike by 2 alone", x.told(0, 5), 4);
+        x.wipe(0);
+        x.go(0, 0);
+        x.go(0, 1);
+        check.due("alike by none, in row 0", x.told(0, 5), 0);
+        x.wipe(0);
+        x.go(0, 6);
+        x.go(0, 7);
+        check.due("alike by none, in row 1", x.told(0, 5), 0);
+        x.board(0, 2, 4);
+        x.go(0, 0);
+        x.go(0, 2);
+        check.due("alike by none, in column 0", x.told(0, 5), 0);
+        x.board(0, 6, 6);
+        for (int square = 0; square < 36; square++) {
+            x.bar(0, square, true);
+        }
+        check.due("all barred", x.told(0, 2), 36);
         x.board(1, 2, 3);
         x.go(1, 1);
         x.go(1, 3);

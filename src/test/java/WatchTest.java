@@ -194,6 +194,8 @@ public final class WatchTest {
         reading(x, "watch 1 xxxxbell;", -11, 8);
         reading(x, "watch 1 aaaaaaaaaaaaaaaaaabell;", -11, 8);
         reading(x, "watches 1 bell;", -11, 0);
+        reading(x, "watch 1 bellz;", -11, 8);
+        reading(x, "watch 1 bella;", -11, 8);
         reading(x, "watch 1 Bell;", -11, 8);
         reading(x, "watch 1 bellX;", -11, 12);
         reading(x, "watch 1 bell{", -11, 12);
@@ -322,6 +324,8 @@ public final class WatchTest {
         check.due("two still", x.count(5), 2);
         x.sweep(0, 0);
         check.due("one is lit, though it is bare", x.count(5), 1);
+        Check.lineClock(x, 3, 1, 0);
+        check.due("one of a single cell is mounted, too", x.count(4), 3);
         check.due("count 8", x.count(8), Check.OUTSIDE);
         check.due("count -1", x.count(-1), Check.OUTSIDE);
         for (int wild : Check.WILD) {
