@@ -347,7 +347,12 @@ public final class SmellHours {
 
     public int link(int b, int i, int c) {
         Clock source = night.clockOf(b);
-        if (source == null || !source.hasCell(i) || night.clockOf(c) == null) {
+        Clock target = night.clockOf(c);
+        if (source == null || !source.hasCell(i)) {
+            return UNKNOWN;
+        }
+        // A link lights cell 0, which a clock that was never mounted has not.
+        if (target == null || !target.hasCell(0)) {
             return UNKNOWN;
         }
         if (b == c) {
@@ -1050,7 +1055,7 @@ public final class SmellHours {
             return outTick <= tick && begins[cell] == NONE;
         }
 
-        /** Cells end in the order in which they begin, so the earliest one that waits cannot be reached earlier. */
+        /** A cell ends behind its beginning, so the earliest one that waits cannot be reached earlier. */
         void burnFrom(int cell, int tick, Air air) {
             if (powders[cell] == NONE) {
                 return;

@@ -364,7 +364,7 @@ final class Model {
     }
 
     public int link(int b, int i, int c) {
-        if (!cell(b, i) || !in(c, 0, 3)) return UNKNOWN;
+        if (!cell(b, i) || !cell(c, 0)) return UNKNOWN;
         if (b == c) return OUTSIDE;
         if (links.size() == 12) return FULL;
         links.add(new int[] {b, i, c});
@@ -436,7 +436,7 @@ final class Model {
             if (clock.handTick != tick && !linked) continue;
             clock.lit = tick;
             clock.litCell = clock.handTick == tick ? clock.handCell : 0;
-            if (clock.grain.length > 0 && clock.grain[clock.litCell] != NONE) begin(clock, clock.litCell, tick, dampOfAll);
+            if (clock.grain[clock.litCell] != NONE) begin(clock, clock.litCell, tick, dampOfAll);
             return true;
         }
         return false;

@@ -234,15 +234,31 @@ public final class NightTest {
         check.due("clock 3 by clock 1", x.night(3, 0), 25);
     }
 
+    /** A link lights cell 0, so a clock without cells is UNKNOWN to it till it is mounted. */
     private static void linkToNoPath() {
         SmellHours x = new SmellHours();
         Check.lineClock(x, 0, 2, 0);
-        check.due("a link to a clock without cells", x.link(0, 1, 3), 1);
+        for (int c = 1; c < 4; c++) {
+            check.due("a link to clock " + c + " without cells", x.link(0, 1, c), Check.UNKNOWN);
+        }
+        check.due("a link between clocks without cells", x.link(2, 0, 3), Check.UNKNOWN);
+        check.due("to itself, without cells", x.link(3, 0, 3), Check.UNKNOWN);
+        check.due("no link stands", x.count(2), 0);
         x.light(0, 0, 4);
+        check.due("it is not lit", x.night(3, 0), Check.NONE);
+        check.due("nor out", x.night(3, 1), Check.NONE);
+        check.due("one is lit", x.count(5), 1);
+        check.due("mounted, all bare", x.mount(3, 5), 2);
+        check.due("a link to it", x.link(0, 1, 3), 1);
         check.due("it is lit", x.night(3, 0), 14);
         check.due("and out", x.night(3, 1), 14);
         check.due("nothing burns", x.night(3, 2), 0);
         check.due("at cell 0", x.night(3, 3), 0);
+        for (int k = 2; k <= 12; k++) {
+            x.link(0, 1, 3);
+        }
+        check.due("without cells, when full", x.link(0, 1, 2), Check.UNKNOWN);
+        check.due("twelve links", x.count(2), 12);
     }
 
     private static void linksRefused() {
