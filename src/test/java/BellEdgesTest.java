@@ -1,4 +1,4 @@
-/** Edges of promises 32 to 38: each sentence of the document that names one, with a test of its own. */
+/** Promises 32 to 38, sentence by sentence: each stands word for word, with a test of its own that goes to its edges. */
 public final class BellEdgesTest {
     private static final Edges edges = new Edges();
 
@@ -100,7 +100,7 @@ public final class BellEdgesTest {
             }
             due("two", x.count(1), 2);
         });
-        edges.sentence(34, "OUTSIDE (also below the one ahead)", x -> {
+        edges.sentence(34, "OUTSIDE (also below the one ahead), FULL.", x -> {
             due("500", x.hear(500), 1);
             due("499", x.hear(499), Edges.OUTSIDE);
             due("0", x.hear(0), Edges.OUTSIDE);
@@ -109,8 +109,13 @@ public final class BellEdgesTest {
             due("500, which is below the one ahead now", x.hear(500), Edges.OUTSIDE);
             due("three", x.hush(), 3);
             due("499, with none ahead", x.hear(499), 1);
+            for (int k = 2; k <= 24; k++) {
+                x.hear(499 + k);
+            }
+            due("the last one again, when full", x.hear(523), Edges.FULL);
+            due("one below, when full", x.hear(522), Edges.OUTSIDE);
         });
-        edges.sentence(34, "(24 at most; not below the one ahead)", x -> {
+        edges.sentence(34, "HEARD: ticks of a bell, rising (24 at most; not below the one ahead)", x -> {
             for (int k = 1; k <= 24; k++) {
                 due("heard " + k, x.hear(100), k);
             }
@@ -188,6 +193,13 @@ public final class BellEdgesTest {
             due("all pairs", x.cost(0), 51);
             hear(x, 1050, 1050);
             due("the first one is left out", x.cost(0), 20 + 20 + 0);
+        });
+        edges.sentence(36, "COST. UNKNOWN.", x -> {
+            hung(x, 2);
+            hear(x, 1013);
+            due("7 apart", x.cost(0), 7);
+            due("clock -1", x.cost(-1), Edges.UNKNOWN);
+            due("clock 4", x.cost(4), Edges.UNKNOWN);
         });
         edges.sentence(36, "COST of a CLOCK", x -> {
             hung(x, 0, 5);
@@ -280,7 +292,7 @@ public final class BellEdgesTest {
             gone("a later light that is burnt earlier", x, new int[] {0, 5999, 59, 60, 0}, 70, 74, 2);
             gone("none", x, new int[] {0, 69, 59, 60, 0}, Edges.NONE, Edges.NONE, 0);
         });
-        edges.sentence(38, "it was lit at some tick from a to b (b - a at most 300) at CELL 0", x -> {
+        edges.sentence(38, "was found OUT at a tick t, burnt up to CELL p; it was lit at some tick from a to b (b - a at most 300) at CELL 0", x -> {
             hung(x);
             gone("301 apart", x, new int[] {0, 5999, 0, 301, 0}, Edges.OUTSIDE, Edges.OUTSIDE, Edges.OUTSIDE);
             gone("300 apart", x, new int[] {0, 5999, 5, 305, 0}, 15, 315, 301);
@@ -288,6 +300,8 @@ public final class BellEdgesTest {
             gone("b below a", x, new int[] {0, 5999, 5, 4, 0}, Edges.OUTSIDE, Edges.OUTSIDE, Edges.OUTSIDE);
             x.light(0, 3, 777);
             gone("its hand is nothing to it", x, new int[] {5, 5999, 5, 5, 0}, 65, 65, 1);
+            gone("found out at 65, burnt up to cell 5", x, new int[] {5, 65, 0, 300, 0}, 60, 65, 6);
+            gone("found out at 65, burnt up to cell 4", x, new int[] {4, 65, 0, 300, 0}, 50, 65, 16);
         });
         edges.sentence(38, "and went CELL by CELL along its PATH", x -> {
             Check.snake(x, 0, 2, 2);
@@ -297,7 +311,7 @@ public final class BellEdgesTest {
             gone("no jump", x, new int[] {3, 5999, 0, 0, 0}, 40, 40, 1);
             gone("cell 0", x, new int[] {0, 5999, 0, 0, 0}, 10, 10, 1);
         });
-        edges.sentence(38, "a CLOCK, all of whose CELLS up to p have grains", x -> {
+        edges.sentence(38, "GONE: a CLOCK, all of whose CELLS up to p have grains", x -> {
             hung(x);
             x.sweep(0, 0);
             x.lay(0, 0, 0, 0);
@@ -348,7 +362,7 @@ public final class BellEdgesTest {
     }
 
     private static void gonesRefused() {
-        edges.sentence(38, "OUTSIDE (t, a, b 0 .. 5999; b below a; above 300 apart; WIDTH; what)", x -> {
+        edges.sentence(38, "OUTSIDE (t, a, b 0 .. 5999; b below a; above 300 apart; WIDTH; what); NOT: a CELL up to p is BARE.", x -> {
             hung(x);
             due("t -1", x.gone(0, 0, -1, 0, 0, 0, 2), Edges.OUTSIDE);
             due("t 6000", x.gone(0, 0, 6000, 0, 0, 0, 2), Edges.OUTSIDE);
@@ -368,6 +382,11 @@ public final class BellEdgesTest {
                 due("what " + wild, x.gone(0, 0, 0, 0, 0, 0, wild), Edges.OUTSIDE);
             }
             due("far apart", x.gone(0, 0, 0, Integer.MIN_VALUE, Integer.MAX_VALUE, 0, 2), Edges.OUTSIDE);
+            x.sweep(0, 0);
+            x.lay(0, 0, 0, 0);
+            due("cell 1 is bare", x.gone(0, 1, 5999, 0, 0, 0, 2), Edges.NOT);
+            due("cell 1 is bare, b below a", x.gone(0, 1, 5999, 1, 0, 0, 2), Edges.OUTSIDE);
+            due("up to cell 0", x.gone(0, 0, 5999, 0, 0, 0, 2), 1);
         });
         edges.sentence(38, "UNKNOWN (CLOCK, CELL p)", x -> {
             hung(x);
@@ -380,7 +399,7 @@ public final class BellEdgesTest {
                 due("p " + wild, x.gone(0, wild, 0, 0, 0, 0, 2), Edges.UNKNOWN);
             }
         });
-        edges.sentence(38, "2 how many lights are MAYBE; NONE of 0, 1: none is.", x -> {
+        edges.sentence(38, "WHEN: what = 0 the least, 1 the greatest tick, 2 how many lights are MAYBE; NONE of 0, 1: none is.", x -> {
             hung(x, 0);
             gone("none is", x, new int[] {5, 5999, 0, 300, 60}, Edges.NONE, Edges.NONE, 0);
             Check.snake(x, 1, 6, 6);

@@ -1,4 +1,4 @@
-/** Edges of promises 17 to 23: each sentence of the document that names one, with a test of its own. */
+/** Promises 17 to 23, sentence by sentence: each stands word for word, with a test of its own that goes to its edges. */
 public final class ClockEdgesTest {
     private static final Edges edges = new Edges();
 
@@ -128,7 +128,9 @@ public final class ClockEdgesTest {
     }
 
     private static void mounts() {
-        edges.sentence(17, "NOT: the CLOCK has grains, or the PATH no SQUARES.", x -> {
+        edges.sentence(17, "UNKNOWN; NOT: the CLOCK has grains, or the PATH no SQUARES.", x -> {
+            due("no clock, no squares", x.mount(4, 1), Edges.UNKNOWN);
+            due("no seal", x.mount(0, 6), Edges.UNKNOWN);
             Check.line(x, 0, 2);
             due("no squares", x.mount(0, 1), Edges.NOT);
             due("none is mounted", x.count(4), 0);
@@ -267,9 +269,13 @@ public final class ClockEdgesTest {
             }
             due("in cells", x.weighed(3, 2), 36);
         });
-        edges.sentence(18, "NOT: the CELL is not BARE, or the JAR has none.", x -> {
+        edges.sentence(18, "UNKNOWN; NOT: the CELL is not BARE, or the JAR has none.", x -> {
             Check.line(x, 0, 3);
+            due("a clock without cells", x.lay(0, 0, 3, 1), Edges.UNKNOWN);
             x.mount(0, 0);
+            due("no cell", x.lay(0, 3, 3, 1), Edges.UNKNOWN);
+            due("no powder", x.lay(0, 0, 8, 1), Edges.UNKNOWN);
+            due("no jar", x.lay(0, 0, 3, 4), Edges.UNKNOWN);
             due("no grains", x.lay(0, 0, 3, 1), Edges.NOT);
             x.bring(1, 3, 2);
             x.bring(1, 4, 2);
@@ -297,7 +303,7 @@ public final class ClockEdgesTest {
             due("powder 0 is not bare", x.grain(0, 1), 0);
             due("bare", x.grain(0, 0), Edges.NONE);
         });
-        edges.sentence(19, "The POWDER of a CELL; NONE: it is BARE.", x -> {
+        edges.sentence(19, "The POWDER of a CELL; NONE: it is BARE. UNKNOWN.", x -> {
             Check.lineClock(x, 1, 6, 7);
             due("cell -1", x.grain(1, -1), Edges.UNKNOWN);
             due("cell 0", x.grain(1, 0), 7);
@@ -368,7 +374,7 @@ public final class ClockEdgesTest {
     }
 
     private static void rows() {
-        edges.sentence(21, "THE ROW has a POWDER for each k of 0 to 11 (0 at first).", x -> {
+        edges.sentence(21, "SCENTED: THE ROW has a POWDER for each k of 0 to 11 (0 at first).", x -> {
             for (int k = 0; k < 12; k++) {
                 due("at first", x.row(k, (k + 1) % 8), 0);
             }
@@ -381,13 +387,16 @@ public final class ClockEdgesTest {
                 due("k " + wild, x.row(wild, 0), Edges.OUTSIDE);
             }
         });
-        edges.sentence(21, "UNKNOWN (the POWDER), OUTSIDE (k).", x -> {
+        edges.sentence(21, "POWDER k of THE ROW becomes another one: what it was. UNKNOWN (the POWDER), OUTSIDE (k).", x -> {
             due("both", x.row(12, 8), Edges.UNKNOWN);
             due("both, below", x.row(-1, -1), Edges.UNKNOWN);
             due("powder 8", x.row(0, 8), Edges.UNKNOWN);
             due("powder -1", x.row(0, -1), Edges.UNKNOWN);
             due("powder 7", x.row(0, 7), 0);
-            due("7 it was", x.row(0, 0), 7);
+            due("7 it was", x.row(0, 3), 7);
+            due("3 it was", x.row(0, 3), 3);
+            due("3 it is", x.row(0, 0), 3);
+            due("another one's", x.row(1, 0), 0);
         });
     }
 
@@ -420,8 +429,10 @@ public final class ClockEdgesTest {
                 due("s " + wild, x.fill(0, wild, 1), Edges.OUTSIDE);
             }
         });
-        edges.sentence(22, "OUTSIDE (s 0 .. 99 less n, n)", x -> {
+        edges.sentence(22, "UNKNOWN, OUTSIDE (s 0 .. 99 less n, n)", x -> {
             scented(x);
+            due("no clock", x.fill(4, 0, 1), Edges.UNKNOWN);
+            due("no clock, no hours", x.fill(-1, 0, 0), Edges.UNKNOWN);
             for (int n = 1; n <= 12; n++) {
                 due("s -1, n " + n, x.fill(0, -1, n), Edges.OUTSIDE);
                 due("s 100 less n, n " + n, x.fill(0, 100 - n, n), Edges.OUTSIDE);
@@ -431,7 +442,7 @@ public final class ClockEdgesTest {
                 x.sweep(0, 0);
             }
         });
-        edges.sentence(22, "the first one beginning at tick 60 s, each other one as the one ahead is burnt", x -> {
+        edges.sentence(22, ": CELL by CELL along its PATH, the first one beginning at tick 60 s, each other one as the one ahead is burnt", x -> {
             scented(x);
             x.damp(7, 7, 50);
             x.rate(1, 20);
@@ -440,6 +451,12 @@ public final class ClockEdgesTest {
             // Hour 7: 420, 450; hour 8: 480, 520; hour 9: 560; 620 is in hour 10.
             due("fill", x.fill(0, 7, 3), 5);
             cells(x, 1, 1, 2, 2, 3, Edges.NONE);
+            // Forth and back in two rows: fire would jump from cell 0 to cell 5, grains are laid along the path.
+            Check.snake(x, 1, 3, 2);
+            x.mount(1, 1);
+            due("cells 0 to 2 in an hour of 20 ticks each", x.fill(1, 0, 1), 3);
+            due("cell 2", x.grain(1, 2), 1);
+            due("cell 5", x.grain(1, 5), Edges.NONE);
         });
         edges.sentence(22, "it gets POWDER k of THE ROW, if it begins in HOUR s and k, k below n", ClockEdgesTest::fillsAtTheEdge);
         edges.sentence(22, "till its CELLS or the HOURS are at an end.", x -> {
@@ -600,7 +617,7 @@ public final class ClockEdgesTest {
             x.row(0, 2);
             due("hour 1 is the first one, of another powder", x.spills(0, 1, 1), 5);
         });
-        edges.sentence(23, "over all CELLS that burn in THE NIGHT", x -> {
+        edges.sentence(23, "SPILLS of a CLOCK for s and n: over all CELLS that burn in THE NIGHT", x -> {
             Check.lineClock(x, 0, 6, 1);
             Check.lineClock(x, 1, 6, 1);
             x.light(1, 0, 0);

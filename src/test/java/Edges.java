@@ -2,7 +2,7 @@ import java.util.Set;
 import java.util.TreeSet;
 import java.util.function.Consumer;
 
-/** Sentences of the document that name an edge: each stands with a test of its own, on an object of its own. */
+/** Sentences of the document: each stands with a test of its own, on an object of its own. */
 final class Edges {
     static final int NONE = -1, UNKNOWN = -1001, OUTSIDE = -1002, NOT = -1003, FULL = -1004, SPENT = -1005;
     /** Numbers far from any that there is, so that sums and differences of them wrap around. */

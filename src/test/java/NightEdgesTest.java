@@ -1,4 +1,4 @@
-/** Edges of promises 24 to 31: each sentence of the document that names one, with a test of its own. */
+/** Promises 24 to 31, sentence by sentence: each stands word for word, with a test of its own that goes to its edges. */
 public final class NightEdgesTest {
     private static final Edges edges = new Edges();
 
@@ -55,7 +55,7 @@ public final class NightEdgesTest {
     }
 
     private static void fires() {
-        edges.sentence(29, "a CELL that is lit at a tick BEGINS then", x -> {
+        edges.sentence(29, "FIRE: a CELL that is lit at a tick BEGINS then", x -> {
             clock(x, 0, 3);
             x.light(0, 0, 0);
             begins(x, 0, 0, 10, 20);
@@ -81,6 +81,24 @@ public final class NightEdgesTest {
             due("by cell 1", x.burns(0, 2, 0), 15);
         });
         edges.sentence(29, "when the first of its NEIGHBOURS among the CELLS is burnt", NightEdgesTest::overtaken);
+        edges.sentence(29, "burnt it is as many ticks later as it burns (END).", x -> {
+            Check.line(x, 0, 4);
+            x.mount(0, 0);
+            int[] rates = {1, 60, 7, 20};
+            for (int i = 0; i < 4; i++) {
+                x.rate(i, rates[i]);
+                x.bring(0, i, 1);
+                x.lay(0, i, i, 0);
+            }
+            x.damp(1, 1, 50);
+            x.light(0, 0, 58);
+            // 58 and 1, 59 and 60, then dry again: 119 in hour 1 and 10, 129 and 20.
+            int[] ticks = {58, 59, 119, 129, 149};
+            for (int i = 0; i < 4; i++) {
+                due("begin of cell " + i, x.burns(0, i, 0), ticks[i]);
+                due("end of cell " + i, x.burns(0, i, 1), ticks[i + 1]);
+            }
+        });
         edges.sentence(29, "each other CELL that is not BARE", x -> {
             clock(x, 0, 5, 2);
             x.light(0, 0, 0);
@@ -114,8 +132,12 @@ public final class NightEdgesTest {
             x.light(0, 0, 0);
             begins(x, 0, 0, 10, 20, 30, 40, 50, 60);
         });
-        edges.sentence(29, "NONE. UNKNOWN, OUTSIDE.", x -> {
+        edges.sentence(29, "BEGIN (what = 0), END (1) of a CELL; NONE. UNKNOWN, OUTSIDE.", x -> {
             clock(x, 0, 2);
+            x.light(0, 0, 33);
+            due("begin", x.burns(0, 1, 0), 43);
+            due("end", x.burns(0, 1, 1), 53);
+            x.calm();
             due("not lit", x.burns(0, 0, 0), Edges.NONE);
             due("nor burnt", x.burns(0, 0, 1), Edges.NONE);
             due("what -1", x.burns(0, 0, -1), Edges.OUTSIDE);
@@ -161,7 +183,7 @@ public final class NightEdgesTest {
     }
 
     private static void hands() {
-        edges.sentence(24, "A NIGHT, at ticks 0 to 5999", x -> {
+        edges.sentence(24, "A NIGHT, at ticks 0 to 5999: a CLOCK is LIT by HAND at a tick at a CELL", x -> {
             clock(x, 0, 1);
             due("-2", x.light(0, 0, -2), Edges.OUTSIDE);
             due("6000", x.light(0, 0, 6000), Edges.OUTSIDE);
@@ -174,7 +196,7 @@ public final class NightEdgesTest {
             }
             due("lit still", x.night(0, 0), 5999);
         });
-        edges.sentence(24, "(tick 0 .. 5999; NONE: no HAND): 1.", x -> {
+        edges.sentence(24, "A CLOCK is LIT by HAND (tick 0 .. 5999; NONE: no HAND): 1. UNKNOWN, OUTSIDE.", x -> {
             clock(x, 0, 3);
             due("none, as it was", x.light(0, 1, Edges.NONE), 1);
             notLit(x, 0);
@@ -182,6 +204,10 @@ public final class NightEdgesTest {
             due("none", x.light(0, 2, Edges.NONE), 1);
             notLit(x, 0);
             x.light(0, 2, 3);
+            night(x, 0, 3, 33, 3, 2);
+            due("no clock", x.light(4, 0, 0), Edges.UNKNOWN);
+            due("no cell, no hand", x.light(0, 3, Edges.NONE), Edges.UNKNOWN);
+            due("no tick", x.light(0, 0, -2), Edges.OUTSIDE);
             night(x, 0, 3, 33, 3, 2);
         });
         edges.sentence(24, "(one HAND for each; a new one in its place)", x -> {
@@ -295,7 +321,7 @@ public final class NightEdgesTest {
     }
 
     private static void linksRefused() {
-        edges.sentence(25, "UNKNOWN, OUTSIDE (b is c), FULL.", x -> {
+        edges.sentence(25, "A LINK from CELL i of CLOCK b to CLOCK c: how many there are. UNKNOWN, OUTSIDE (b is c), FULL.", x -> {
             clock(x, 0, 2);
             clock(x, 1, 2);
             due("cell -1", x.link(0, -1, 1), Edges.UNKNOWN);
@@ -311,6 +337,8 @@ public final class NightEdgesTest {
             }
             due("no links", x.count(2), 0);
             due("the last cell", x.link(0, 1, 1), 1);
+            due("the same again", x.link(0, 1, 1), 2);
+            due("back", x.link(1, 0, 0), 3);
         });
         edges.sentence(25, "or by a LINK (12 at most)", x -> {
             clock(x, 0, 2);
@@ -375,7 +403,7 @@ public final class NightEdgesTest {
     }
 
     private static void agains() {
-        edges.sentence(26, "if the CLOCK is OUT by then", NightEdgesTest::againWhenOut);
+        edges.sentence(26, ": at a tick at a CELL: if the CLOCK is OUT by then", NightEdgesTest::againWhenOut);
         edges.sentence(26, "and the CELL is not BARE and never BEGAN", x -> {
             clock(x, 0, 5, 2);
             x.light(0, 0, 0);
@@ -558,7 +586,8 @@ public final class NightEdgesTest {
             x.lay(0, 2, 0, 0);
             due("the greatest, not the last cell's", x.night(0, 1), 100);
         });
-        edges.sentence(28, "(NONE of 0, 1, 3: it is not). UNKNOWN, OUTSIDE.", x -> {
+        edges.sentence(28, "Of a CLOCK in THE NIGHT: what = 0 the tick at which it is LIT, 1 at which it is OUT, 2 how many CELLS burn,"
+            + " 3 the CELL at which it is LIT (NONE of 0, 1, 3: it is not). UNKNOWN, OUTSIDE.", x -> {
             for (int c = 0; c < 4; c++) {
                 notLit(x, c);
             }
@@ -572,6 +601,9 @@ public final class NightEdgesTest {
             }
             x.light(0, 0, 0);
             night(x, 0, 0, 20, 2, 0);
+            clock(x, 3, 5, 1);
+            x.light(3, 4, 777);
+            night(x, 3, 777, 807, 3, 4);
         });
         edges.sentence(28, "2 how many CELLS burn", x -> {
             Check.snake(x, 0, 6, 6);
@@ -619,7 +651,7 @@ public final class NightEdgesTest {
             }
             due("a clock without cells", x.scent(1, 0), 0);
         });
-        edges.sentence(30, "POWDERS of the CELLS that burn then", x -> {
+        edges.sentence(30, "SCENT at a tick: POWDERS of the CELLS that burn then", x -> {
             // Three by three, forth and back: cell 4 is the middle, cells 0, 2, 6, 8 are corners, and 8 is bare.
             Check.snake(x, 0, 3, 3);
             x.mount(0, 0);
@@ -649,7 +681,7 @@ public final class NightEdgesTest {
     }
 
     private static void dawns() {
-        edges.sentence(31, "CELLS that burnt are BARE, their grains ASHES", x -> {
+        edges.sentence(31, "DAWN: CELLS that burnt are BARE, their grains ASHES", x -> {
             clock(x, 0, 5, 2);
             clock(x, 1, 3);
             x.light(0, 0, 5999);

@@ -1,4 +1,4 @@
-/** Edges of promises 11 to 16: each sentence of the document that names one, with a test of its own. */
+/** Promises 11 to 16, sentence by sentence: each stands word for word, with a test of its own that goes to its edges. */
 public final class PowderEdgesTest {
     private static final Edges edges = new Edges();
 
@@ -37,7 +37,7 @@ public final class PowderEdgesTest {
             }
             due("60 still", x.rate(0, 1), 60);
         });
-        edges.sentence(11, "RATE becomes v: what it was.", x -> {
+        edges.sentence(11, "RATE becomes v: what it was. UNKNOWN, OUTSIDE.", x -> {
             due("5", x.rate(3, 5), 10);
             due("5 again", x.rate(3, 5), 5);
             due("another one's", x.rate(4, 6), 10);
@@ -46,6 +46,25 @@ public final class PowderEdgesTest {
             due("end", x.burns(0, 0, 1), 5);
             x.rate(3, 7);
             due("end, with another rate", x.burns(0, 0, 1), 7);
+            due("no powder", x.rate(8, 5), Edges.UNKNOWN);
+            due("no rate", x.rate(3, 0), Edges.OUTSIDE);
+            due("refused, the end stays", x.burns(0, 0, 1), 7);
+        });
+        edges.sentence(12, "All numbers are whole; FLOOR of a / b is the greatest whole number not above it.", x -> {
+            Check.lineClock(x, 0, 1, 0);
+            x.light(0, 0, 0);
+            x.rate(0, 1);
+            // 1.00 up to 1.50; then 2.00, 2.02, 2.98 and 3.00.
+            for (int d = 0; d <= 50; d++) {
+                x.damp(0, 0, d);
+                due("one and " + d + " hundredths", x.burns(0, 0, 1), 1);
+            }
+            x.rate(0, 2);
+            int[][] rows = {{0, 2}, {1, 2}, {49, 2}, {50, 3}};
+            for (int[] row : rows) {
+                x.damp(0, 0, row[0]);
+                due("two, damp " + row[0], x.burns(0, 0, 1), row[1]);
+            }
         });
         edges.sentence(12, "burns for FLOOR of RATE (100 and DAMP) / 100 ticks.", x -> {
             int[][] rows = {{1, 0, 1}, {1, 50, 1}, {2, 49, 2}, {2, 50, 3}, {3, 33, 3}, {3, 34, 4}, {7, 14, 7}, {7, 15, 8},
@@ -138,7 +157,7 @@ public final class PowderEdgesTest {
             x.light(0, 0, 119);
             due("begun in the damp, it burns on behind it", x.burns(0, 0, 1), 134);
         });
-        edges.sentence(12, "DAMP of HOURS from a to b (0 .. 99, b not below a) becomes d: 1.", PowderEdgesTest::dampsFromTo);
+        edges.sentence(12, "DAMP of HOURS from a to b (0 .. 99, b not below a) becomes d: 1. OUTSIDE.", PowderEdgesTest::dampsFromTo);
     }
 
     private static void dampsFromTo(SmellHours x) {
@@ -185,7 +204,10 @@ public final class PowderEdgesTest {
                 due("n " + wild, x.bring(0, 0, wild), Edges.OUTSIDE);
             }
         });
-        edges.sentence(13, "FULL: it would have more than 999.", x -> {
+        edges.sentence(13, "UNKNOWN, OUTSIDE; FULL: it would have more than 999.", x -> {
+            due("no jar", x.bring(4, 5, 10), Edges.UNKNOWN);
+            due("no powder", x.bring(2, 8, 10), Edges.UNKNOWN);
+            due("no grains", x.bring(2, 5, 0), Edges.OUTSIDE);
             bringMany(x, 2, 5, 990);
             due("10 to 990", x.bring(2, 5, 10), Edges.FULL);
             due("9 to 990", x.bring(2, 5, 9), 999);
@@ -194,7 +216,13 @@ public final class PowderEdgesTest {
             due("in another jar", x.bring(3, 5, 99), 99);
             due("999 still", x.jar(2, 5), 999);
         });
-        edges.sentence(14, "Grains of a POWDER in a JAR.", x -> {
+        edges.sentence(14, "Grains of a POWDER in a JAR. UNKNOWN.", x -> {
+            for (int wild : Edges.WILD) {
+                due("jar " + wild, x.jar(wild, 0), Edges.UNKNOWN);
+                due("powder " + wild, x.jar(0, wild), Edges.UNKNOWN);
+            }
+            due("jar 4", x.jar(4, 7), Edges.UNKNOWN);
+            due("powder 8", x.jar(3, 8), Edges.UNKNOWN);
             for (int jar = 0; jar < 4; jar++) {
                 for (int p = 0; p < 8; p++) {
                     due("none at first", x.jar(jar, p), 0);
@@ -233,6 +261,22 @@ public final class PowderEdgesTest {
     }
 
     private static void pours() {
+        edges.sentence(15, "REFUSALS, of several the first in this order: UNKNOWN (a SEAL, CLOCK, CELL of a PATH, BALL, JAR, POWDER that"
+            + " there is not), OUTSIDE (another number out of its bounds), NOT (not now, as told), FULL, SPENT (as told).",
+            PowderEdgesTest::refusalsInOrder);
+        edges.sentence(15, "What is refused changes nothing.", x -> {
+            bringMany(x, 0, 3, 999);
+            bringMany(x, 1, 3, 7);
+            x.pour(1, 4, 3, 1);
+            x.pour(1, 0, 3, 100);
+            x.pour(2, 1, 3, 1);
+            x.pour(1, 0, 3, 7);
+            int[] due = {999, 7, 0, 0};
+            for (int jar = 0; jar < 4; jar++) {
+                due("jar " + jar, x.jar(jar, 3), due[jar]);
+            }
+            due("brought", x.weighed(3, 0), 1006);
+        });
         edges.sentence(15, "n grains (1 .. 99) of a POWDER go from one JAR to another one: 1.", x -> {
             bringMany(x, 0, 6, 250);
             due("0", x.pour(0, 3, 6, 0), Edges.OUTSIDE);
@@ -245,7 +289,10 @@ public final class PowderEdgesTest {
                 due("n " + wild, x.pour(0, 3, 6, wild), Edges.OUTSIDE);
             }
         });
-        edges.sentence(15, "OUTSIDE (also the same one)", x -> {
+        edges.sentence(15, "UNKNOWN, OUTSIDE (also the same one)", x -> {
+            due("jar 4 to itself", x.pour(4, 4, 0, 9), Edges.UNKNOWN);
+            due("jar -1 to itself", x.pour(-1, -1, 0, 9), Edges.UNKNOWN);
+            due("no powder", x.pour(0, 1, 8, 9), Edges.UNKNOWN);
             for (int jar = 0; jar < 4; jar++) {
                 x.bring(jar, 0, 9);
                 due("to itself", x.pour(jar, jar, 0, 9), Edges.OUTSIDE);
@@ -273,8 +320,39 @@ public final class PowderEdgesTest {
         });
     }
 
+    /** What is asked of each call is mended from one to the next, so that the refusal that comes next is seen. */
+    private static void refusalsInOrder(SmellHours x) {
+        bringMany(x, 1, 3, 950);
+        bringMany(x, 0, 3, 60);
+        due("no jar, outside, not so many, full", x.pour(4, 1, 3, 100), Edges.UNKNOWN);
+        due("outside, not so many, full", x.pour(0, 1, 3, 100), Edges.OUTSIDE);
+        due("not so many, full", x.pour(0, 1, 3, 61), Edges.NOT);
+        due("full", x.pour(0, 1, 3, 60), Edges.FULL);
+        due("none", x.pour(0, 1, 3, 49), 1);
+        x.board(0, 6, 6);
+        x.bar(0, 0, true);
+        x.bound(100);
+        due("no seal, outside, barred, spent", x.draw(6, 0, 35, 37, false, 0), Edges.UNKNOWN);
+        due("outside, barred, spent", x.draw(0, 0, 35, 37, false, 0), Edges.OUTSIDE);
+        due("barred, spent", x.draw(0, 0, 35, 36, false, 0), Edges.NOT);
+        x.bar(0, 0, false);
+        due("spent", x.draw(0, 0, 35, 36, false, 0), Edges.SPENT);
+        Check.line(x, 1, 2);
+        x.mount(0, 1);
+        due("no cell, outside, bare", x.gone(0, 2, -1, 0, 0, 0, 0), Edges.UNKNOWN);
+        due("outside, bare", x.gone(0, 1, -1, 0, 0, 0, 0), Edges.OUTSIDE);
+        due("bare", x.gone(0, 1, 0, 0, 0, 0, 0), Edges.NOT);
+        for (int k = 0; k < 12; k++) {
+            x.again(0, 0, 0);
+        }
+        due("no cell, outside, full", x.again(0, 2, 6000), Edges.UNKNOWN);
+        due("outside, full", x.again(0, 0, 6000), Edges.OUTSIDE);
+        due("full again", x.again(0, 0, 0), Edges.FULL);
+        due("no ball", x.drops(0), Edges.UNKNOWN);
+    }
+
     private static void weights() {
-        edges.sentence(16, "Of a POWDER (NONE: of all): what = 0 grains brought, 1 in JARS, 2 in CELLS, 3 ASHES.", x -> {
+        edges.sentence(16, "Of a POWDER (NONE: of all): what = 0 grains brought, 1 in JARS, 2 in CELLS, 3 ASHES. UNKNOWN, OUTSIDE.", x -> {
             Check.lineClock(x, 0, 3, 7);
             x.bring(0, 0, 5);
             x.bring(3, 7, 2);

@@ -1,4 +1,4 @@
-/** Edges of promises 1 to 10: each sentence of the document that names one, with a test of its own. */
+/** Promises 1 to 10, sentence by sentence: each stands word for word, with a test of its own that goes to its edges. */
 public final class SealEdgesTest {
     private static final Edges edges = new Edges();
 
@@ -113,7 +113,7 @@ public final class SealEdgesTest {
             due("(1, 2) is 5", x.go(0, 5), 4);
             due("(0, 2) is 4", x.go(0, 4), 5);
         });
-        edges.sentence(2, "A SEAL becomes a board of w times h, none BARRED, without a PATH: w h.", x -> {
+        edges.sentence(2, "A SEAL becomes a board of w times h, none BARRED, without a PATH: w h. UNKNOWN, OUTSIDE.", x -> {
             x.board(3, 3, 3);
             x.board(4, 3, 3);
             x.bar(3, 8, true);
@@ -124,6 +124,9 @@ public final class SealEdgesTest {
             due("no path", x.told(3, 3), 0);
             due("a square of the path ahead can be barred", x.bar(3, 1, true), 0);
             due("another seal's bars stay", x.told(4, 2), 1);
+            due("no seal", x.board(6, 3, 3), Edges.UNKNOWN);
+            due("no rows", x.board(4, 3, 0), Edges.OUTSIDE);
+            due("refused, the board stays", x.told(4, 2), 1);
         });
         edges.sentence(3, "A SQUARE is BARRED, or not: what it was (1, 0).", x -> {
             x.board(0, 6, 6);
@@ -180,7 +183,7 @@ public final class SealEdgesTest {
     }
 
     private static void paths() {
-        edges.sentence(4, "one beside the other, by x or by y", x -> {
+        edges.sentence(4, "NEIGHBOURS: SQUARES one beside the other, by x or by y.", x -> {
             x.board(0, 3, 2);
             x.go(0, 2);
             due("from the end of a row to the next one's first", x.go(0, 3), Edges.NOT);
@@ -231,8 +234,10 @@ public final class SealEdgesTest {
             due("one", x.go(1, 0), 1);
             due("no other one", x.go(1, 0), Edges.NOT);
         });
-        edges.sentence(4, "UNKNOWN, OUTSIDE; NOT: it cannot follow.", x -> {
+        edges.sentence(4, "A SQUARE more at the end of the PATH: LENGTH. UNKNOWN, OUTSIDE; NOT: it cannot follow.", x -> {
             x.board(0, 2, 3);
+            due("seal -1", x.go(-1, 0), Edges.UNKNOWN);
+            due("seal 6", x.go(6, 0), Edges.UNKNOWN);
             due("square -1", x.go(0, -1), Edges.OUTSIDE);
             due("square 6", x.go(0, 6), Edges.OUTSIDE);
             due("the last square", x.go(0, 5), 1);
@@ -241,13 +246,17 @@ public final class SealEdgesTest {
             }
             due("it cannot follow", x.go(0, 0), Edges.NOT);
             path(x, 0, 5);
+            due("one more", x.go(0, 3), 2);
+            path(x, 0, 5, 3);
         });
-        edges.sentence(5, "The PATH has no SQUARES: its LENGTH ahead.", x -> {
+        edges.sentence(5, "The PATH has no SQUARES: its LENGTH ahead. UNKNOWN.", x -> {
             Check.snake(x, 5, 6, 6);
             due("of 36", x.wipe(5), 36);
             due("of none", x.wipe(5), 0);
             due("it begins anywhere then", x.go(5, 35), 1);
             due("with what was in it", x.go(5, 34), 2);
+            due("seal -1", x.wipe(-1), Edges.UNKNOWN);
+            due("seal 6", x.wipe(6), Edges.UNKNOWN);
             due("of two", x.wipe(5), 2);
         });
     }
@@ -265,7 +274,7 @@ public final class SealEdgesTest {
             go(x, 0, 1);
             due("into the gap", x.told(0, 4), 0);
         });
-        edges.sentence(9, "6 how many pairs of its SQUARES not next to one another in it are NEIGHBOURS.", x -> {
+        edges.sentence(9, "6 how many pairs of its SQUARES not next to one another in it are NEIGHBOURS. UNKNOWN, OUTSIDE.", x -> {
             x.board(0, 3, 3);
             go(x, 0, 0, 3, 6, 7, 8, 5, 2);
             due("none", x.told(0, 6), 0);
@@ -280,6 +289,8 @@ public final class SealEdgesTest {
             x.wipe(2);
             go(x, 2, 14);
             due("one square", x.told(2, 6), 0);
+            due("no seal", x.told(6, 6), Edges.UNKNOWN);
+            due("nothing more is told", x.told(2, 7), Edges.OUTSIDE);
         });
     }
 
@@ -335,6 +346,8 @@ public final class SealEdgesTest {
     }
 
     private static void search() {
+        edges.sentence(6, "DRAWN: of PATHS from SQUARE a to b with LENGTH n, SOUND if that is asked, ALIKE by a KIND (0: as it may be)",
+            SealEdgesTest::drawnAsAsked);
         edges.sentence(6, "the first by numbers of SQUARES, one after the other.", x -> {
             x.board(0, 3, 3);
             due("4 to 0", x.draw(0, 4, 0, 3, false, 0), 3);
@@ -345,7 +358,7 @@ public final class SealEdgesTest {
             path(x, 0, 8, 5, 4);
         });
         // From 4: 1 (0, 2), 3 (0, 6), 5 (2, 8).
-        edges.sentence(6, "NEIGHBOURS of the last one by numbers", x -> {
+        edges.sentence(6, "They are sought SQUARE by SQUARE, from a on: NEIGHBOURS of the last one by numbers", x -> {
             x.board(0, 3, 3);
             due("4 to 8", x.draw(0, 4, 8, 3, false, 0), 3);
             due("looks", x.looks(), 9);
@@ -360,7 +373,7 @@ public final class SealEdgesTest {
             due("a line", x.draw(1, 0, 2, 3, false, 0), 3);
             due("looks 1, 2", x.looks(), 2);
         });
-        edges.sentence(6, "(if SOUND is asked) has no NEIGHBOUR in the PATH but the last one, is a LOOK", x -> {
+        edges.sentence(6, "and (if SOUND is asked) has no NEIGHBOUR in the PATH but the last one, is a LOOK", x -> {
             x.board(0, 2, 2);
             due("sound", x.draw(0, 0, 2, 4, true, 0), Edges.NOT);
             due("looks 1, 3, and 2 ahead of its time", x.looks(), 3);
@@ -413,6 +426,32 @@ public final class SealEdgesTest {
             }
             path(x, 0, 0, 1);
         });
+    }
+
+    /** Corner to corner of three by three: all that is asked is so of the path that is drawn. */
+    private static void drawnAsAsked(SmellHours x) {
+        x.board(0, 3, 3);
+        int drawn = 0;
+        for (int n = 3; n <= 9; n++) {
+            for (int kind = 0; kind <= 3; kind++) {
+                for (int b = 2; b <= 8; b += 6) {
+                    boolean sound = (n + kind) % 2 == 0;
+                    int answer = x.draw(0, 0, b, n, sound, kind);
+                    if (answer == Edges.NOT) {
+                        continue;
+                    }
+                    drawn++;
+                    String path = "0 to " + b + ", " + n + " squares, kind " + kind;
+                    due(path, answer, n);
+                    due(path + ", length", x.told(0, 3), n);
+                    due(path + ", its first", x.at(0, 0), 0);
+                    due(path + ", its last", x.at(0, n - 1), b);
+                    due(path + ", sound", sound ? x.told(0, 4) : 1, 1);
+                    due(path + ", alike", kind == 0 ? 1 : x.told(0, 5) >> kind & 1, 1);
+                }
+            }
+        }
+        due("drawn", drawn, 13);
     }
 
     private static void lengthOne(SmellHours x) {
@@ -511,8 +550,10 @@ public final class SealEdgesTest {
     }
 
     private static void drawRefused() {
-        edges.sentence(6, "OUTSIDE (also n 1 .. w h, KIND 0 .. 3)", x -> {
+        edges.sentence(6, "UNKNOWN, OUTSIDE (also n 1 .. w h, KIND 0 .. 3)", x -> {
             x.board(0, 3, 2);
+            due("no seal", x.draw(6, 0, 0, 1, false, 0), Edges.UNKNOWN);
+            due("no seal, no kind", x.draw(-1, 0, 0, 1, false, 4), Edges.UNKNOWN);
             due("n 0", x.draw(0, 0, 0, 0, false, 0), Edges.OUTSIDE);
             due("n 7", x.draw(0, 0, 1, 7, false, 0), Edges.OUTSIDE);
             due("n 1", x.draw(0, 0, 0, 1, false, 0), 1);
@@ -572,6 +613,26 @@ public final class SealEdgesTest {
                 due("what " + wild, x.told(5, wild), Edges.OUTSIDE);
             }
         });
+        edges.sentence(9, "4 whether its WALLS are SOUND (1, 0), 5 KINDS (1 .. 3) by which it is ALIKE, as a SET", x -> {
+            x.board(0, 3, 2);
+            // Each row: the square that comes next, SOUND, KINDS as a SET.
+            int[][] rows = {{0, 1, 0}, {1, 1, 0}, {4, 1, 0}, {5, 1, 8}, {2, 0, 0}};
+            for (int[] row : rows) {
+                x.go(0, row[0]);
+                due("sound, with " + row[0], x.told(0, 4), row[1]);
+                due("kinds, with " + row[0], x.told(0, 5), row[2]);
+            }
+        });
+        edges.sentence(9, "A SET is a whole number, bit k for k.", x -> {
+            x.board(0, 1, 2);
+            x.go(0, 0);
+            due("kind 1", x.told(0, 5), 2);
+            x.board(0, 2, 1);
+            x.go(0, 0);
+            due("kind 2", x.told(0, 5), 4);
+            x.go(0, 1);
+            due("kinds 1, 2, 3", x.told(0, 5), 2 + 4 + 8);
+        });
         edges.sentence(9, "2 BARRED SQUARES", x -> {
             x.board(0, 6, 6);
             for (int square = 0; square < 36; square++) {
@@ -580,7 +641,12 @@ public final class SealEdgesTest {
             due("all", x.told(0, 2), 36);
             due("none can be the first", x.go(0, 17), Edges.NOT);
         });
-        edges.sentence(10, "SQUARE i of the PATH of a SEAL; NONE.", x -> {
+        edges.sentence(10, "NONE is -1.", x -> {
+            due("NONE", SmellHours.NONE, -1);
+            due("no square", x.at(0, 0), -1);
+            due("no fault", x.fault(), -1);
+        });
+        edges.sentence(10, "SQUARE i of the PATH of a SEAL; NONE. UNKNOWN.", x -> {
             Check.snake(x, 0, 6, 6);
             due("i -1", x.at(0, -1), Edges.NONE);
             due("i 0", x.at(0, 0), 0);
@@ -592,6 +658,9 @@ public final class SealEdgesTest {
             x.wipe(0);
             go(x, 0, 9);
             due("i 1 of a shorter one", x.at(0, 1), Edges.NONE);
+            due("seal -1", x.at(-1, 0), Edges.UNKNOWN);
+            due("seal 6", x.at(6, 0), Edges.UNKNOWN);
+            due("seal 6, i -1", x.at(6, -1), Edges.UNKNOWN);
         });
     }
 }

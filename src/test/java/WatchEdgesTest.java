@@ -1,4 +1,4 @@
-/** Edges of promises 39 to 46: each sentence of the document that names one, with a test of its own. */
+/** Promises 39 to 46, sentence by sentence: each stands word for word, with a test of its own that goes to its edges. */
 public final class WatchEdgesTest {
     private static final Edges edges = new Edges();
 
@@ -36,7 +36,7 @@ public final class WatchEdgesTest {
     }
 
     private static void seasons() {
-        edges.sentence(39, "a night HOUR N ticks (30 .. 90; 60 at first)", x -> {
+        edges.sentence(39, "A SEASON: a night HOUR N ticks (30 .. 90; 60 at first)", x -> {
             due("29", x.season(29), Edges.OUTSIDE);
             due("91", x.season(91), Edges.OUTSIDE);
             for (int wild : Edges.WILD) {
@@ -90,7 +90,7 @@ public final class WatchEdgesTest {
             due("19439", x.watch(19439, 0), 11);
             due("19440", x.watch(19440, 0), 0);
         });
-        edges.sentence(40, "Of a tick from dusk (0 .. 20000)", x -> {
+        edges.sentence(40, "Of a tick from dusk (0 .. 20000): what = 0 its WATCH", x -> {
             due("-1", x.watch(-1, 0), Edges.OUTSIDE);
             due("20001", x.watch(20001, 0), Edges.OUTSIDE);
             due("0", x.watch(0, 0), 0);
@@ -146,7 +146,7 @@ public final class WatchEdgesTest {
             due("8 of 8", x.feed(8, 0x2120202020202020L), 8);
             due("the first one cannot stand", x.read(), -11);
         });
-        edges.sentence(41, "is a text (160 bytes at most)", x -> {
+        edges.sentence(41, "A RULE of them is a text (160 bytes at most)", x -> {
             for (int k = 1; k < 20; k++) {
                 x.feed(8, 0x2020202020202020L);
             }
@@ -185,9 +185,11 @@ public final class WatchEdgesTest {
             due("no words then", x.words(1), 0);
             good(x, "     ", 0);
         });
-        edges.sentence(42, "THE TEXT (it is empty then, with a FAULT, too)", x -> {
+        edges.sentence(42, "THE TEXT (it is empty then, with a FAULT, too) becomes the RULE", x -> {
             Check.feed(x, "watch 1 bell;");
+            due("no rule yet", x.words(1), 0);
             due("read", x.read(), 1);
+            due("the rule", x.words(1), 1);
             due("empty", x.count(6), 0);
             Check.feed(x, "watch 1 bell");
             due("read with a fault", x.read(), -11);
@@ -366,7 +368,7 @@ public final class WatchEdgesTest {
             reading(x, "watch 1 bell bell;", -11, 13);
             reading(x, "watch 1 bell;watch 001 bell;", -12, 19);
         });
-        edges.sentence(42, "at the first byte that has one", x -> {
+        edges.sentence(42, "FAULTS, at the first byte that has one", x -> {
             reading(x, "watch 12 bell,bell;!", -12, 6);
             reading(x, "watch 1 bell,bell;watch 12", -14, 13);
             reading(x, "watch 1 bell;watch 1 x", -13, 19);
