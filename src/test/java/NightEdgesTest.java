@@ -274,6 +274,7 @@ public final class NightEdgesTest {
             x.link(3, 0, 2);
             night(x, 2, 0, 10, 1, 0);
         });
+        edges.sentence(25, "or by a LINK (12 at most): when a CELL of a CLOCK BEGINS", NightEdgesTest::lastNight);
         edges.sentence(25, "if the CELL is BARE then, nothing burns.", x -> {
             clock(x, 0, 2);
             clock(x, 1, 3, 0);
@@ -318,6 +319,36 @@ public final class NightEdgesTest {
             night(x, 0, 130, 160, 3, 0);
             due("all are lit", x.count(5), 4);
         });
+    }
+
+    /** Four clocks that burn as slowly as they can, lit at the last tick of a night, each by the last cell of the one ahead. */
+    private static void lastNight(SmellHours x) {
+        // Three rows with a row between two of them, so that fire does not jump.
+        int[] path = {0, 1, 2, 3, 4, 5, 11, 17, 16, 15, 14, 13, 12, 18, 24, 25, 26, 27, 28, 29, 35};
+        x.board(0, 6, 6);
+        for (int square : path) {
+            x.go(0, square);
+        }
+        x.rate(0, 60);
+        x.damp(0, 99, 50);
+        for (int c = 0; c < 4; c++) {
+            x.mount(c, 0);
+            x.bring(0, 0, 21);
+            for (int i = 0; i < 21; i++) {
+                x.lay(c, i, 0, 0);
+            }
+        }
+        for (int c = 0; c < 3; c++) {
+            x.link(c, 20, c + 1);
+        }
+        x.light(0, 0, 5999);
+        for (int c = 0; c < 4; c++) {
+            int lit = 5999 + 20 * 90 * c;
+            night(x, c, lit, lit + 21 * 90, 21, 0);
+        }
+        due("the last cell begins", x.burns(3, 20, 0), 13199);
+        due("it burns", x.scent(3, 13288), 1);
+        due("it is out", x.scent(3, 13289), 0);
     }
 
     private static void linksRefused() {
